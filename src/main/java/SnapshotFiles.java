@@ -397,7 +397,10 @@ public final class SnapshotFiles {
         if (hindrance != 0) {
             return hindrance;
         }
-        Block node = store.hasRoomIn(directory) ? store.add(directory, title, fid.user, mode) : null;
+        if (!store.hasRoomIn(directory)) {
+            return NO_ROOM;
+        }
+        Block node = store.add(store.change(directory), title, fid.user, mode);
         if (node == null) {
             return NO_ROOM;
         }
@@ -736,11 +739,11 @@ public final class SnapshotFiles {
         private int pairs;
 
         boolean isIn(int user, int group) {
-            return user == group || (pairs & 1 << user * USERS + group) != 0;
+            return user == group || (pairs & (1 << (user * USERS + group))) != 0;
         }
 
         void join(int user, int group) {
-            pairs |= 1 << user * USERS + group;
+            pairs |= 1 << (user * USERS + group);
         }
 
         /** Nobody has a right where there is no node: the root has no directory above it. */
@@ -750,10 +753,10 @@ public final class SnapshotFiles {
             }
             int rights = node.mode & RIGHTS_OF_ONE;
             if (user == node.owner) {
-                rights |= node.mode >> OWNER_SHIFT & RIGHTS_OF_ONE;
+                rights |= (node.mode >> OWNER_SHIFT) & RIGHTS_OF_ONE;
             }
             if (isIn(user, node.group)) {
-                rights |= node.mode >> GROUP_SHIFT & RIGHTS_OF_ONE;
+                rights |= (node.mode >> GROUP_SHIFT) & RIGHTS_OF_ONE;
             }
             return (rights & right) != 0;
         }
@@ -889,7 +892,7 @@ public final class SnapshotFiles {
         }
 
         boolean isIn(int tree) {
-            return (trees & 1 << tree) != 0;
+            return (trees & (1 << tree)) != 0;
         }
 
         boolean isInOthersThan(int tree) {
@@ -914,24 +917,22 @@ public final class SnapshotFiles {
 
         /** The root is its own directory above, but no node of a directory. */
         boolean isNodeOf(int tree, Block directory) {
-            return (trees & 1 << tree) != 0 && above == directory.path && path != ROOT;
+            return (trees & (1 << tree)) != 0 && above == directory.path && path != ROOT;
         }
 
-        void begin(int itsPath, int itsTitle, int itsOwner, int itsMode) {
+        void begin(int itsPath, int itsAbove, int itsTitle, int itsOwner, int itsGroup, int itsMode) {
             path = itsPath;
+            above = itsAbove;
             title = itsTitle;
             owner = itsOwner;
+            group = itsGroup;
             mode = itsMode;
-            above = ROOT;
-            group = 0;
             version = 0;
             length = 0;
         }
 
         void copyNodeFrom(Block other) {
-            begin(other.path, other.title, other.owner, other.mode);
-            above = other.above;
-            group = other.group;
+            begin(other.path, other.above, other.title, other.owner, other.group, other.mode);
             version = other.version;
             length = other.length;
             System.arraycopy(other.bytes, 0, bytes, 0, MOST_BYTES);
@@ -972,7 +973,7 @@ public final class SnapshotFiles {
             for (int i = 0; i < MOST_BLOCKS; i++) {
                 pool[i] = new Block();
             }
-            pool[0].begin(ROOT, 0, 0, DIRECTORY | ALL_RIGHTS);
+            pool[0].begin(ROOT, ROOT, 0, 0, 0, DIRECTORY | ALL_RIGHTS);
             pool[0].enter(PRESENT);
             pool[0].enter(SAVED);
         }
@@ -1114,18 +1115,16 @@ public final class SnapshotFiles {
 
         /** Null if no block is free, which hasRoomIn rules out. */
         Block add(Block directory, int title, int owner, int mode) {
-            Block changed = change(directory);
             Block node = freeBlock();
             if (node == null) {
                 return null;
             }
             int passedOn = (mode & DIRECTORY) != 0 ? ALL_RIGHTS : ALL_READS_AND_WRITES;
+            int itsMode = mode & (~passedOn | directory.mode);
             paths++;
-            node.begin(paths, title, owner, mode & (~passedOn | changed.mode));
-            node.above = changed.path;
-            node.group = changed.group;
+            node.begin(paths, directory.path, title, owner, directory.group, itsMode);
             node.enter(PRESENT);
-            changed.version++;
+            directory.version++;
             return node;
         }
 

@@ -619,6 +619,13 @@ public final class KindsTest {
         bench.ask(1, Bench.WRITE, 0, 0, 99);
         bench.ask(2, Bench.READ, 0, 0, 2);
         bench.replied(99, 2);
+        Check.part("all nine rights are neither append nor alone");
+        bench.makeOpen(0, 1, 2, ALL, 1, 2);
+        bench.reach(0, 2, 2);
+        bench.ask(0, Bench.OPEN, 2, 2);
+        bench.ask(1, Bench.WRITE, 2, 0, 3);
+        bench.ask(2, Bench.READ, 1, 0, 8);
+        bench.replied(3, 2);
     }
 
     private static void clunk() {
@@ -689,6 +696,16 @@ public final class KindsTest {
         bench.replied(0, 2, DIR | ALL);
         bench.ask(0, Bench.CREATE, 0, 1, 0, 0);
         bench.replied(3, 0);
+        Check.part("REMOVE, nothing of a removed node comes again");
+        bench.makeOpen(1, 1, 2, 0666, 1, 2, 3);
+        bench.ask(0, Bench.WSTAT, 1, -1, 0777, -1, 1);
+        bench.ask(0, Bench.REMOVE, 1);
+        bench.makeOpen(0, 1, 2, 0644);
+        bench.ask(0, Bench.STAT, 1);
+        bench.replied(5, 0, 0644, 0, 0, 0, 2);
+        bench.ask(1, Bench.WRITE, 1, 2, 9);
+        bench.ask(3, Bench.READ, 1, 0, 8);
+        bench.replied(0, 0, 9);
     }
 
     private static void removeOrder() {

@@ -6,6 +6,7 @@ public final class TreesTest {
 
     public static void main(String[] args) {
         aWriteCopiesAllAbove();
+        aCopyIsTheSame();
         whatOpenCopies();
         whatCreateCopies();
         whatRemoveCopies();
@@ -57,6 +58,27 @@ public final class TreesTest {
         bench.blocks(8);
         Check.same("sync, cut", bench.files.sync(1), 1);
         bench.blocks(6);
+    }
+
+    private static void aCopyIsTheSame() {
+        Check.part("a copy is the same");
+        Bench bench = smallTree();
+        bench.makeOpen(2, 0, 8, APPEND | 0640, 5, 6, 7);
+        bench.ask(0, Bench.WSTAT, 0, -1, -1, -1, 2);
+        bench.ask(0, Bench.ATTACH, 1, 3, 0);
+        bench.ask(0, Bench.CREATE, 1, 9, DIR | Bench.ALONE | ALL, 0);
+        bench.ask(0, Bench.WSTAT, 1, -1, -1, -1, 3);
+        for (int i = 1; i <= 3; i++) {
+            Check.same("snapshot", bench.files.snapshot(), i);
+            bench.ask(1, Bench.WRITE, 0, 0, i);
+            bench.make(1, i, 0, 9);
+        }
+        bench.ask(0, Bench.STAT, 0);
+        bench.replied(6, 6, APPEND | 0640, 6, 2, 2, 8);
+        bench.ask(6, Bench.READ, 0, 0, 8);
+        bench.replied(5, 6, 7, 1, 2, 3);
+        bench.ask(0, Bench.STAT, 1);
+        bench.replied(7, 3, DIR | Bench.ALONE | ALL, 0, 3, 3, 9);
     }
 
     private static void whatOpenCopies() {
