@@ -887,10 +887,6 @@ public final class SnapshotFiles {
             bytes = new int[MOST_BYTES];
         }
 
-        boolean isInSome() {
-            return trees != 0;
-        }
-
         boolean isIn(int tree) {
             return (trees & (1 << tree)) != 0;
         }
@@ -932,10 +928,17 @@ public final class SnapshotFiles {
         }
 
         void copyNodeFrom(Block other) {
-            begin(other.path, other.above, other.title, other.owner, other.group, other.mode);
+            path = other.path;
+            above = other.above;
+            title = other.title;
+            owner = other.owner;
+            group = other.group;
             version = other.version;
+            mode = other.mode;
             length = other.length;
-            System.arraycopy(other.bytes, 0, bytes, 0, MOST_BYTES);
+            for (int i = 0; i < MOST_BYTES; i++) {
+                bytes[i] = other.bytes[i];
+            }
         }
 
         int byteAt(int i) {
@@ -1023,7 +1026,7 @@ public final class SnapshotFiles {
         int countBlocks() {
             int count = 0;
             for (int i = 0; i < MOST_BLOCKS; i++) {
-                if (pool[i].isInSome()) {
+                if (pool[i].trees != 0) {
                     count++;
                 }
             }
@@ -1106,7 +1109,7 @@ public final class SnapshotFiles {
 
         private Block freeBlock() {
             for (int i = 0; i < MOST_BLOCKS; i++) {
-                if (!pool[i].isInSome()) {
+                if (pool[i].trees == 0) {
                     return pool[i];
                 }
             }
