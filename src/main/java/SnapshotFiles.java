@@ -263,7 +263,7 @@ public final class SnapshotFiles {
             return GONE;
         }
         fid.take(user, tree, ROOT);
-        replyWithKind(root);
+        replyWithMode(root);
         return 0;
     }
 
@@ -297,13 +297,13 @@ public final class SnapshotFiles {
                 return hindrance;
             }
             if (hindrance != 0) {
-                replyWithKind(here);
+                replyWithMode(here);
                 return i - 1;
             }
             here = next;
         }
         newFid.take(fid.user, fid.tree, here.path);
-        replyWithKind(here);
+        replyWithMode(here);
         return numbers.count - 1;
     }
 
@@ -564,7 +564,7 @@ public final class SnapshotFiles {
         if (node == null) {
             return GONE;
         }
-        replyWithKind(node);
+        replyWithMode(node);
         replied.add(node.length);
         replied.add(node.owner);
         replied.add(node.group);
@@ -634,7 +634,7 @@ public final class SnapshotFiles {
         replied.add(node.version);
     }
 
-    private void replyWithKind(Block node) {
+    private void replyWithMode(Block node) {
         replyWithVersion(node);
         replied.add(node.mode);
     }
