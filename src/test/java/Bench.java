@@ -1,6 +1,9 @@
 import java.util.Arrays;
 
-/** One SnapshotFiles with short words for requests; every answer is checked on the way. */
+/**
+ * One SnapshotFiles with short words for requests; every answer is checked on the way. All calls go
+ * through here and are counted, as nothing is promised behind the 512th.
+ */
 final class Bench {
     static final int ATTACH = 0;
     static final int WALK = 1;
@@ -21,7 +24,79 @@ final class Bench {
     private static final String[] KINDS = {
         "ATTACH", "WALK", "OPEN", "CREATE", "READ", "WRITE", "CLUNK", "REMOVE", "STAT", "WSTAT"};
 
-    final SnapshotFiles files = new SnapshotFiles();
+    private static final int MOST_CALLS = 512;
+
+    private final SnapshotFiles files = new SnapshotFiles();
+    private int calls = 0;
+
+    private SnapshotFiles called() {
+        calls++;
+        if (calls == MOST_CALLS + 1) {
+            Check.same("how often one object is called", calls, MOST_CALLS);
+        }
+        return files;
+    }
+
+    /** The object itself, for tests that look at no answer that is free. */
+    SnapshotFiles uncounted() {
+        return files;
+    }
+
+    boolean member(int user, int group) {
+        return called().member(user, group);
+    }
+
+    boolean say(int number) {
+        return called().say(number);
+    }
+
+    boolean send(int connection, int tag, int kind, int fid) {
+        return called().send(connection, tag, kind, fid);
+    }
+
+    int serve(int connection, int tag) {
+        return called().serve(connection, tag);
+    }
+
+    boolean flush(int connection, int tag) {
+        return called().flush(connection, tag);
+    }
+
+    boolean hangUp(int connection) {
+        return called().hangUp(connection);
+    }
+
+    int reply(int i) {
+        return called().reply(i);
+    }
+
+    int waiting(int connection) {
+        return called().waiting(connection);
+    }
+
+    int fid(int connection, int fid) {
+        return called().fid(connection, fid);
+    }
+
+    int sync(int most) {
+        return called().sync(most);
+    }
+
+    int snapshot() {
+        return called().snapshot();
+    }
+
+    void crash() {
+        called().crash();
+    }
+
+    int blocks() {
+        return called().blocks();
+    }
+
+    int nodes() {
+        return called().nodes();
+    }
 
     /** Serves a request of connection 0. */
     void ask(int want, int kind, int fid, int... numbers) {
@@ -31,23 +106,29 @@ final class Bench {
     void askFrom(int connection, int want, int kind, int fid, int... numbers) {
         String what = KINDS[kind] + " of fid " + fid + " with " + Arrays.toString(numbers);
         for (int number : numbers) {
-            Check.yes("say for " + what, files.say(number));
+            Check.yes("say for " + what, say(number));
         }
-        Check.yes("send for " + what, files.send(connection, 7, kind, fid));
-        Check.same(what, files.serve(connection, 7), want);
+        Check.yes("send for " + what, send(connection, 7, kind, fid));
+        Check.same(what, serve(connection, 7), want);
         if (want < 0) {
-            Check.same("reply(-1) after " + what, files.reply(-1), 0);
-            Check.same("reply(0) after " + what, files.reply(0), 0);
+            Check.same("reply(-1) after " + what, reply(-1), 0);
+            Check.same("reply(0) after " + what, reply(0), 0);
         }
     }
 
     /** The whole reply to the latest request. */
     void replied(int... want) {
-        int[] got = new int[Math.max(0, files.reply(-1))];
+        int[] got = new int[Math.max(0, reply(-1))];
         for (int i = 0; i < got.length; i++) {
-            got[i] = files.reply(i);
+            got[i] = reply(i);
         }
         Check.same("the reply", got, want);
+    }
+
+    /** What STAT tells: path, version, mode, length, owner, group, title. */
+    void stat(int fid, int... want) {
+        ask(0, STAT, fid);
+        replied(want);
     }
 
     /** Makes a node in a directory of the present tree, for a user, with no fid left at it. */
@@ -83,14 +164,14 @@ final class Bench {
     }
 
     void blocks(int want) {
-        Check.same("blocks()", files.blocks(), want);
+        Check.same("blocks()", blocks(), want);
     }
 
     void nodes(int want) {
-        Check.same("nodes()", files.nodes(), want);
+        Check.same("nodes()", nodes(), want);
     }
 
     void fid(int want, int connection, int fid) {
-        Check.same("fid(" + connection + ", " + fid + ")", files.fid(connection, fid), want);
+        Check.same("fid(" + connection + ", " + fid + ")", fid(connection, fid), want);
     }
 }

@@ -95,7 +95,7 @@ public final class KindsTest {
         bench.ask(-7, Bench.ATTACH, 0, 0, 5);
         bench.fid(0, 0, 0);
         bench.make(0, 4, 0);
-        Check.same("snapshot", bench.files.snapshot(), 1);
+        Check.same("snapshot", bench.snapshot(), 1);
         bench.make(0, 5, 0);
         bench.ask(0, Bench.ATTACH, 0, 3, 0);
         bench.replied(0, 2, DIR | ALL);
@@ -198,7 +198,7 @@ public final class KindsTest {
         Bench bench = new Bench();
         bench.make(0, 1, 0666);
         bench.make(0, 2, DIR | ALL);
-        Check.same("snapshot", bench.files.snapshot(), 1);
+        Check.same("snapshot", bench.snapshot(), 1);
         bench.ask(-1, Bench.OPEN, 0, 99);
         bench.reach(0, 0, 1);
         for (int wrong : NO_OPEN_MODES) {
@@ -293,7 +293,7 @@ public final class KindsTest {
         Check.part("OPEN, alone");
         Bench bench = new Bench();
         bench.make(0, 1, ALONE | 0644);
-        Check.same("snapshot", bench.files.snapshot(), 1);
+        Check.same("snapshot", bench.snapshot(), 1);
         bench.reach(0, 0, 1);
         bench.reach(0, 1, 1);
         bench.askFrom(1, 0, Bench.ATTACH, 0, 1, 0);
@@ -355,7 +355,7 @@ public final class KindsTest {
         bench.ask(-1, Bench.CREATE, 0, 0, 0, 0);
         bench.make(0, 1, 0666);
         bench.make(0, 2, DIR | 0755);
-        Check.same("snapshot", bench.files.snapshot(), 1);
+        Check.same("snapshot", bench.snapshot(), 1);
         bench.reach(0, 0, 1);
         bench.ask(-4, Bench.CREATE, 0, 0, -1, 3);
         bench.reachIn(1, 0, 1, 1);
@@ -453,7 +453,7 @@ public final class KindsTest {
         Check.part("CREATE, rights of the new node");
         Bench bench = new Bench();
         bench.make(0, 1, DIR | 0352);
-        Check.yes("member(2, 0)", bench.files.member(2, 0));
+        Check.yes("member(2, 0)", bench.member(2, 0));
         bench.make(0, 2, ALONE | APPEND | ALL, 1);
         bench.reach(0, 0, 1, 2);
         bench.ask(0, Bench.STAT, 0);
@@ -516,7 +516,7 @@ public final class KindsTest {
         for (int title = 7; title >= 1; title -= 2) {
             bench.make(0, title, 0);
         }
-        Check.same("snapshot", bench.files.snapshot(), 1);
+        Check.same("snapshot", bench.snapshot(), 1);
         bench.reach(0, 0);
         bench.ask(0, Bench.OPEN, 0, 0);
         bench.ask(-7, Bench.READ, 0, 1, 1);
@@ -714,7 +714,7 @@ public final class KindsTest {
         bench.make(0, 1, DIR | 0755);
         bench.make(0, 2, DIR | ALL, 1);
         bench.make(0, 3, 0, 1, 2);
-        Check.same("snapshot", bench.files.snapshot(), 1);
+        Check.same("snapshot", bench.snapshot(), 1);
         bench.reachIn(1, 0, 0);
         bench.ask(-9, Bench.REMOVE, 0);
         bench.fid(0, 0, 0);
@@ -734,7 +734,7 @@ public final class KindsTest {
         bench.makeOpen(3, 0, 99, ALONE | 0, 1, 2);
         bench.ask(0, Bench.STAT, 0);
         bench.replied(1, 2, ALONE, 2, 3, 0, 99);
-        Check.same("snapshot", bench.files.snapshot(), 1);
+        Check.same("snapshot", bench.snapshot(), 1);
         bench.ask(1, Bench.WRITE, 0, 2, 3);
         bench.reachIn(1, 2, 1, 99);
         bench.ask(0, Bench.STAT, 1);
@@ -752,7 +752,7 @@ public final class KindsTest {
         Bench bench = new Bench();
         bench.ask(-1, Bench.WSTAT, 0, -2, -2, -2, -2);
         bench.make(0, 1, 0666);
-        Check.same("snapshot", bench.files.snapshot(), 1);
+        Check.same("snapshot", bench.snapshot(), 1);
         bench.reach(0, 0, 1);
         for (int wrong : new int[] {-2, Integer.MIN_VALUE, Integer.MAX_VALUE, 2048, 100}) {
             bench.ask(-7, Bench.WSTAT, 0, wrong, -1, -1, -1);
@@ -802,7 +802,7 @@ public final class KindsTest {
         bench.replied();
         bench.reach(0, 2, 1, 3);
         bench.ask(-5, Bench.WSTAT, 2, -1, -1, -1, 1);
-        Check.yes("member(0, 1)", bench.files.member(0, 1));
+        Check.yes("member(0, 1)", bench.member(0, 1));
         bench.ask(0, Bench.WSTAT, 2, -1, -1, -1, 1);
         bench.ask(0, Bench.STAT, 2);
         bench.replied(3, 0, 0644, 0, 0, 1, 3);
@@ -883,7 +883,7 @@ public final class KindsTest {
         bench.ask(0, Bench.WSTAT, 0, -1, 0070, -1, -1);
         bench.reach(1, 1, 1);
         bench.ask(-5, Bench.CREATE, 1, 1, 0, 0);
-        Check.yes("member(1, 2)", bench.files.member(1, 2));
+        Check.yes("member(1, 2)", bench.member(1, 2));
         bench.ask(0, Bench.CREATE, 1, 1, 0, 0);
         bench.ask(0, Bench.STAT, 1);
         bench.replied(2, 0, 0, 0, 1, 2, 1);

@@ -33,12 +33,12 @@ public final class PromisesTest {
         bench.nodes(1);
         bench.blocks(1);
         for (int connection = 0; connection < 2; connection++) {
-            Check.same("waiting", bench.files.waiting(connection), 0);
+            Check.same("waiting", bench.waiting(connection), 0);
             for (int fid = 0; fid < 6; fid++) {
                 bench.fid(0, connection, fid);
             }
             for (int tag = 0; tag < 8; tag++) {
-                Check.same("serve", bench.files.serve(connection, tag), -20);
+                Check.same("serve", bench.serve(connection, tag), -20);
             }
         }
         bench.replied();
@@ -51,7 +51,7 @@ public final class PromisesTest {
 
     private static void member() {
         Check.part("promise 2");
-        SnapshotFiles files = new SnapshotFiles();
+        Bench files = new Bench();
         for (int user = 0; user < 4; user++) {
             for (int group = 0; group < 4; group++) {
                 String what = "member(" + user + ", " + group + ")";
@@ -59,7 +59,7 @@ public final class PromisesTest {
                 Check.no(what + " again", files.member(user, group));
             }
         }
-        files = new SnapshotFiles();
+        files = new Bench();
         for (int wrong : WRONG_USERS) {
             Check.no("member of a wrong user", files.member(wrong, 0));
             Check.no("member of a wrong group", files.member(0, wrong));
@@ -76,35 +76,35 @@ public final class PromisesTest {
         bench.ask(0, Bench.ATTACH, 0, 1, 0);
         bench.ask(1, Bench.WALK, 0, 0, 1);
         bench.ask(-5, Bench.CREATE, 0, 2, 0, 0);
-        Check.yes("member(0, 1)", bench.files.member(0, 1));
+        Check.yes("member(0, 1)", bench.member(0, 1));
         bench.ask(-5, Bench.CREATE, 0, 2, 0, 0);
-        Check.yes("member(1, 0)", bench.files.member(1, 0));
+        Check.yes("member(1, 0)", bench.member(1, 0));
         bench.ask(0, Bench.CREATE, 0, 2, 0, 0);
-        bench.files.crash();
-        Check.no("member(1, 0) after a crash", bench.files.member(1, 0));
+        bench.crash();
+        Check.no("member(1, 0) after a crash", bench.member(1, 0));
     }
 
     private static void say() {
         Check.part("promise 3");
         Bench bench = new Bench();
-        Check.yes("say 1", bench.files.say(Integer.MIN_VALUE));
-        Check.yes("say 2", bench.files.say(0));
-        Check.yes("say 3", bench.files.say(-1));
-        Check.yes("say 4", bench.files.say(Integer.MAX_VALUE));
-        Check.no("say 5", bench.files.say(0));
-        Check.no("say 6", bench.files.say(1));
-        Check.yes("send", bench.files.send(0, 0, Bench.ATTACH, 0));
-        Check.same("ATTACH with four numbers", bench.files.serve(0, 0), -7);
-        Check.yes("say after send", bench.files.say(2));
-        Check.yes("say after send", bench.files.say(0));
-        Check.yes("send", bench.files.send(1, 0, Bench.ATTACH, 0));
-        Check.same("ATTACH", bench.files.serve(1, 0), 0);
+        Check.yes("say 1", bench.say(Integer.MIN_VALUE));
+        Check.yes("say 2", bench.say(0));
+        Check.yes("say 3", bench.say(-1));
+        Check.yes("say 4", bench.say(Integer.MAX_VALUE));
+        Check.no("say 5", bench.say(0));
+        Check.no("say 6", bench.say(1));
+        Check.yes("send", bench.send(0, 0, Bench.ATTACH, 0));
+        Check.same("ATTACH with four numbers", bench.serve(0, 0), -7);
+        Check.yes("say after send", bench.say(2));
+        Check.yes("say after send", bench.say(0));
+        Check.yes("send", bench.send(1, 0, Bench.ATTACH, 0));
+        Check.same("ATTACH", bench.serve(1, 0), 0);
         bench.fid(1, 1, 0);
     }
 
     private static void send() {
         Check.part("promise 4");
-        SnapshotFiles files = new SnapshotFiles();
+        Bench files = new Bench();
         Check.yes("say", files.say(1));
         for (int wrong : WRONG_CONNECTIONS) {
             Check.no("send of a wrong connection", files.send(wrong, 0, 0, 0));
@@ -137,7 +137,7 @@ public final class PromisesTest {
 
     private static void serve() {
         Check.part("promise 5");
-        SnapshotFiles files = new SnapshotFiles();
+        Bench files = new Bench();
         say(files, 1, 0);
         Check.yes("send", files.send(0, 3, Bench.ATTACH, 0));
         Check.yes("send", files.send(0, 1, Bench.STAT, 0));
@@ -161,7 +161,7 @@ public final class PromisesTest {
 
     private static void flush() {
         Check.part("promise 6");
-        SnapshotFiles files = new SnapshotFiles();
+        Bench files = new Bench();
         say(files, 1, 0);
         Check.yes("send", files.send(1, 2, Bench.ATTACH, 0));
         for (int wrong : WRONG_CONNECTIONS) {
@@ -186,29 +186,29 @@ public final class PromisesTest {
         Check.part("promise 7");
         Bench bench = new Bench();
         for (int wrong : WRONG_CONNECTIONS) {
-            Check.no("hangUp of a wrong connection", bench.files.hangUp(wrong));
+            Check.no("hangUp of a wrong connection", bench.hangUp(wrong));
         }
         for (int fid = 0; fid < 6; fid++) {
             bench.askFrom(0, 0, Bench.ATTACH, fid, 0, 0);
             bench.askFrom(1, 0, Bench.ATTACH, fid, 0, 0);
         }
-        Check.yes("send", bench.files.send(0, 0, Bench.STAT, 0));
-        Check.yes("send", bench.files.send(0, 7, Bench.STAT, 0));
-        Check.yes("send", bench.files.send(1, 0, Bench.STAT, 0));
-        say(bench.files, 1, 0);
-        Check.yes("hangUp", bench.files.hangUp(0));
-        Check.same("waiting(0)", bench.files.waiting(0), 0);
-        Check.same("waiting(1)", bench.files.waiting(1), 1);
-        Check.same("the reply stays", bench.files.reply(-1), 3);
+        Check.yes("send", bench.send(0, 0, Bench.STAT, 0));
+        Check.yes("send", bench.send(0, 7, Bench.STAT, 0));
+        Check.yes("send", bench.send(1, 0, Bench.STAT, 0));
+        say(bench, 1, 0);
+        Check.yes("hangUp", bench.hangUp(0));
+        Check.same("waiting(0)", bench.waiting(0), 0);
+        Check.same("waiting(1)", bench.waiting(1), 1);
+        Check.same("the reply stays", bench.reply(-1), 3);
         for (int fid = 0; fid < 6; fid++) {
             bench.fid(0, 0, fid);
             bench.fid(1, 1, fid);
         }
-        Check.same("serve", bench.files.serve(0, 0), -20);
-        Check.yes("send", bench.files.send(0, 0, Bench.ATTACH, 0));
-        Check.same("what is said stays", bench.files.serve(0, 0), 0);
-        Check.yes("hangUp", bench.files.hangUp(0));
-        Check.yes("hangUp of nothing", bench.files.hangUp(0));
+        Check.same("serve", bench.serve(0, 0), -20);
+        Check.yes("send", bench.send(0, 0, Bench.ATTACH, 0));
+        Check.same("what is said stays", bench.serve(0, 0), 0);
+        Check.yes("hangUp", bench.hangUp(0));
+        Check.yes("hangUp of nothing", bench.hangUp(0));
     }
 
     private static void hangUpRemovesOnClose() {
@@ -222,11 +222,11 @@ public final class PromisesTest {
         bench.ask(0, Bench.CREATE, 5, 3, Bench.ALL, 66);
         bench.nodes(4);
         bench.ask(0, Bench.STAT, 0);
-        Check.yes("hangUp(1)", bench.files.hangUp(1));
+        Check.yes("hangUp(1)", bench.hangUp(1));
         bench.nodes(4);
-        Check.yes("hangUp(0)", bench.files.hangUp(0));
+        Check.yes("hangUp(0)", bench.hangUp(0));
         bench.nodes(2);
-        Check.same("the reply to STAT stays", bench.files.reply(-1), 7);
+        Check.same("the reply to STAT stays", bench.reply(-1), 7);
         bench.reach(0, 0);
         bench.ask(-3, Bench.WALK, 0, 1, 1);
         bench.ask(-3, Bench.WALK, 0, 1, 3);
@@ -236,32 +236,32 @@ public final class PromisesTest {
     private static void reply() {
         Check.part("promise 8");
         Bench bench = new Bench();
-        Check.same("reply(-1)", bench.files.reply(-1), 0);
-        Check.same("reply(0)", bench.files.reply(0), 0);
+        Check.same("reply(-1)", bench.reply(-1), 0);
+        Check.same("reply(0)", bench.reply(0), 0);
         bench.makeOpen(2, 0, 5, 0600, 11, 12, 13, 14, 15, 16, 17, 18, 19);
         bench.ask(8, Bench.READ, 0, 0, 8);
         bench.replied(11, 12, 13, 14, 15, 16, 17, 18);
         for (int wrong : new int[] {-2, 8, 9, Integer.MIN_VALUE, Integer.MAX_VALUE}) {
-            Check.same("reply(" + wrong + ")", bench.files.reply(wrong), 0);
+            Check.same("reply(" + wrong + ")", bench.reply(wrong), 0);
         }
         bench.ask(2, Bench.READ, 0, 3, 2);
         bench.replied(14, 15);
-        Check.same("reply(2), of an earlier reply", bench.files.reply(2), 0);
+        Check.same("reply(2), of an earlier reply", bench.reply(2), 0);
         bench.ask(-8, Bench.OPEN, 0, 0);
         bench.replied();
         bench.ask(0, Bench.STAT, 0);
         bench.replied(1, 9, 0600, 9, 2, 0, 5);
-        Check.yes("send", bench.files.send(0, 0, Bench.CLUNK, 0));
-        Check.same("sending leaves the reply", bench.files.reply(-1), 7);
-        Check.yes("flush", bench.files.flush(0, 0));
-        Check.same("flushing leaves the reply", bench.files.reply(3), 9);
+        Check.yes("send", bench.send(0, 0, Bench.CLUNK, 0));
+        Check.same("sending leaves the reply", bench.reply(-1), 7);
+        Check.yes("flush", bench.flush(0, 0));
+        Check.same("flushing leaves the reply", bench.reply(3), 9);
         bench.ask(0, Bench.CLUNK, 0);
         bench.replied();
     }
 
     private static void waiting() {
         Check.part("promise 9");
-        SnapshotFiles files = new SnapshotFiles();
+        Bench files = new Bench();
         for (int wrong : WRONG_CONNECTIONS) {
             Check.same("waiting of a wrong connection", files.waiting(wrong), -1);
         }
@@ -285,7 +285,7 @@ public final class PromisesTest {
         for (int wrong : WRONG_FIDS) {
             bench.fid(-1, 0, wrong);
         }
-        Check.same("snapshot", bench.files.snapshot(), 1);
+        Check.same("snapshot", bench.snapshot(), 1);
         bench.ask(0, Bench.ATTACH, 0, 0, 0);
         bench.askFrom(1, 0, Bench.ATTACH, 5, 0, 1);
         bench.fid(1, 0, 0);
@@ -309,37 +309,37 @@ public final class PromisesTest {
     private static void sync() {
         Check.part("promise 11");
         Bench bench = new Bench();
-        Check.same("sync(0) of nothing", bench.files.sync(0), 0);
-        Check.same("sync(5) of nothing", bench.files.sync(5), 1);
+        Check.same("sync(0) of nothing", bench.sync(0), 0);
+        Check.same("sync(5) of nothing", bench.sync(5), 1);
         bench.makeOpen(0, 0, 1, 0600, 9);
-        Check.same("sync(2), cut", bench.files.sync(2), 2);
+        Check.same("sync(2), cut", bench.sync(2), 2);
         bench.nodes(1);
         bench.fid(0, 0, 0);
         bench.makeOpen(0, 0, 1, 0600, 9);
-        Check.same("sync(3), cut after the mark", bench.files.sync(3), 3);
+        Check.same("sync(3), cut after the mark", bench.sync(3), 3);
         bench.nodes(2);
         bench.fid(0, 0, 0);
-        Check.same("reply", bench.files.reply(-1), 0);
+        Check.same("reply", bench.reply(-1), 0);
         bench.reach(0, 0, 1);
         bench.ask(0, Bench.OPEN, 0, 2);
         bench.ask(1, Bench.WRITE, 0, 1, 8);
         bench.blocks(4);
-        Check.same("sync(4), not cut", bench.files.sync(4), 3);
+        Check.same("sync(4), not cut", bench.sync(4), 3);
         bench.fid(2, 0, 0);
         bench.blocks(2);
         bench.ask(1, Bench.WRITE, 0, 2, 7);
-        Check.same("sync(-1)", bench.files.sync(-1), 3);
-        Check.same("sync(-1) again", bench.files.sync(Integer.MIN_VALUE), 1);
-        Check.same("sync(max)", bench.files.sync(Integer.MAX_VALUE), 1);
+        Check.same("sync(-1)", bench.sync(-1), 3);
+        Check.same("sync(-1) again", bench.sync(Integer.MIN_VALUE), 1);
+        Check.same("sync(max)", bench.sync(Integer.MAX_VALUE), 1);
         bench.ask(3, Bench.READ, 0, 0, 8);
         bench.replied(9, 8, 7);
         bench.ask(1, Bench.WRITE, 0, 0, 1);
-        Check.same("sync(0)", bench.files.sync(0), 0);
+        Check.same("sync(0)", bench.sync(0), 0);
         bench.reach(0, 0, 1);
         bench.ask(0, Bench.OPEN, 0, 0);
         bench.ask(3, Bench.READ, 0, 0, 8);
         bench.replied(9, 8, 7);
-        Check.same("sync(1), after the mark", bench.files.sync(1), 1);
+        Check.same("sync(1), after the mark", bench.sync(1), 1);
         bench.fid(0, 0, 0);
     }
 
@@ -347,23 +347,23 @@ public final class PromisesTest {
         Check.part("promise 12");
         Bench bench = new Bench();
         bench.makeOpen(0, 0, 1, 0666, 1);
-        Check.same("snapshot", bench.files.snapshot(), 1);
+        Check.same("snapshot", bench.snapshot(), 1);
         bench.fid(2, 0, 0);
         bench.ask(1, Bench.WRITE, 0, 0, 2);
-        bench.files.crash();
+        bench.crash();
         bench.reach(0, 0, 1);
         bench.ask(0, Bench.OPEN, 0, 2);
         bench.ask(1, Bench.READ, 0, 0, 8);
         bench.replied(1);
         bench.ask(1, Bench.WRITE, 0, 0, 3);
-        Check.same("snapshot", bench.files.snapshot(), 2);
+        Check.same("snapshot", bench.snapshot(), 2);
         bench.ask(1, Bench.WRITE, 0, 0, 4);
-        Check.same("sync", bench.files.sync(-1), 3);
-        Check.same("snapshot", bench.files.snapshot(), 3);
-        Check.same("snapshot", bench.files.snapshot(), 4);
+        Check.same("sync", bench.sync(-1), 3);
+        Check.same("snapshot", bench.snapshot(), 3);
+        Check.same("snapshot", bench.snapshot(), 4);
         bench.ask(1, Bench.WRITE, 0, 0, 5);
-        Check.same("a fifth snapshot", bench.files.snapshot(), -1);
-        Check.same("was no sync", bench.files.sync(-1), 3);
+        Check.same("a fifth snapshot", bench.snapshot(), -1);
+        Check.same("was no sync", bench.sync(-1), 3);
         bench.ask(0, Bench.REMOVE, 0);
         int[] kept = {0, 1, 3, 4, 4};
         for (int tree = 1; tree <= 4; tree++) {
@@ -379,31 +379,31 @@ public final class PromisesTest {
         Check.part("promise 13");
         Bench bench = new Bench();
         bench.make(0, 1, Bench.DIR | Bench.ALL);
-        Check.same("snapshot", bench.files.snapshot(), 1);
+        Check.same("snapshot", bench.snapshot(), 1);
         bench.make(0, 2, 0666, 1);
         bench.ask(0, Bench.ATTACH, 0, 0, 1);
         bench.askFrom(1, 0, Bench.ATTACH, 0, 0, 0);
         bench.askFrom(1, 0, Bench.CREATE, 0, 3, 0666, 64);
-        Check.yes("send", bench.files.send(0, 5, Bench.STAT, 0));
-        Check.yes("send", bench.files.send(1, 5, Bench.STAT, 0));
-        say(bench.files, 1, 0);
+        Check.yes("send", bench.send(0, 5, Bench.STAT, 0));
+        Check.yes("send", bench.send(1, 5, Bench.STAT, 0));
+        say(bench, 1, 0);
         bench.nodes(4);
         bench.blocks(6);
-        bench.files.crash();
+        bench.crash();
         bench.nodes(2);
         bench.blocks(2);
         bench.fid(0, 0, 0);
         bench.fid(0, 1, 0);
-        Check.same("waiting(0)", bench.files.waiting(0), 0);
-        Check.same("waiting(1)", bench.files.waiting(1), 0);
+        Check.same("waiting(0)", bench.waiting(0), 0);
+        Check.same("waiting(1)", bench.waiting(1), 0);
         bench.replied();
-        Check.yes("send", bench.files.send(0, 5, Bench.ATTACH, 0));
-        Check.same("nothing is said", bench.files.serve(0, 5), -7);
+        Check.yes("send", bench.send(0, 5, Bench.ATTACH, 0));
+        Check.same("nothing is said", bench.serve(0, 5), -7);
         bench.ask(0, Bench.ATTACH, 0, 0, 0);
         bench.replied(0, 1, Bench.DIR | Bench.ALL);
         bench.ask(0, Bench.CREATE, 0, 9, 0, 0);
         bench.replied(4, 0);
-        Check.same("snapshots stay", bench.files.snapshot(), 2);
+        Check.same("snapshots stay", bench.snapshot(), 2);
     }
 
     private static void blocks() {
@@ -413,19 +413,19 @@ public final class PromisesTest {
         bench.blocks(3);
         bench.make(0, 2, 0666, 1);
         bench.blocks(4);
-        Check.same("snapshot", bench.files.snapshot(), 1);
+        Check.same("snapshot", bench.snapshot(), 1);
         bench.blocks(3);
         bench.makeOpen(0, 0, 3, 0666, 1, 2);
         bench.blocks(5);
-        Check.same("sync", bench.files.sync(-1), 3);
+        Check.same("sync", bench.sync(-1), 3);
         bench.blocks(5);
         bench.ask(1, Bench.WRITE, 0, 0, 9);
         bench.blocks(7);
-        Check.same("sync", bench.files.sync(-1), 3);
+        Check.same("sync", bench.sync(-1), 3);
         bench.blocks(5);
         bench.ask(0, Bench.REMOVE, 0);
         bench.blocks(6);
-        Check.same("sync", bench.files.sync(-1), 2);
+        Check.same("sync", bench.sync(-1), 2);
         bench.blocks(4);
     }
 
@@ -435,15 +435,15 @@ public final class PromisesTest {
         bench.make(0, 1, Bench.DIR | Bench.ALL);
         bench.make(0, 2, Bench.DIR | Bench.ALL, 1);
         bench.nodes(3);
-        Check.same("snapshot", bench.files.snapshot(), 1);
+        Check.same("snapshot", bench.snapshot(), 1);
         bench.reach(0, 0, 1, 2);
         bench.ask(0, Bench.REMOVE, 0);
         bench.nodes(2);
-        bench.files.crash();
+        bench.crash();
         bench.nodes(3);
     }
 
-    private static void say(SnapshotFiles files, int... numbers) {
+    private static void say(Bench files, int... numbers) {
         for (int number : numbers) {
             Check.yes("say", files.say(number));
         }

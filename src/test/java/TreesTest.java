@@ -27,7 +27,7 @@ public final class TreesTest {
         bench.make(0, 4, 0666, 1);
         bench.make(0, 5, 0666);
         bench.blocks(7);
-        Check.same("sync", bench.files.sync(-1), 7);
+        Check.same("sync", bench.sync(-1), 7);
         bench.blocks(6);
         return bench;
     }
@@ -52,11 +52,11 @@ public final class TreesTest {
         bench.ask(0, Bench.OPEN, 2, 1);
         bench.ask(1, Bench.WRITE, 2, 0, 1);
         bench.blocks(12);
-        Check.same("sync", bench.files.sync(-1), 7);
+        Check.same("sync", bench.sync(-1), 7);
         bench.blocks(6);
         bench.ask(1, Bench.WRITE, 2, 0, 1);
         bench.blocks(8);
-        Check.same("sync, cut", bench.files.sync(1), 1);
+        Check.same("sync, cut", bench.sync(1), 1);
         bench.blocks(6);
     }
 
@@ -69,7 +69,7 @@ public final class TreesTest {
         bench.ask(0, Bench.CREATE, 1, 9, DIR | Bench.ALONE | ALL, 0);
         bench.ask(0, Bench.WSTAT, 1, -1, -1, -1, 3);
         for (int i = 1; i <= 3; i++) {
-            Check.same("snapshot", bench.files.snapshot(), i);
+            Check.same("snapshot", bench.snapshot(), i);
             bench.ask(1, Bench.WRITE, 0, 0, i);
             bench.make(1, i, 0, 9);
         }
@@ -92,7 +92,7 @@ public final class TreesTest {
         bench.blocks(8);
         bench.make(0, 6, APPEND | 0666, 1, 2);
         bench.blocks(11);
-        Check.same("sync", bench.files.sync(-1), 6);
+        Check.same("sync", bench.sync(-1), 6);
         bench.blocks(7);
         bench.reach(0, 2, 1, 2, 6);
         bench.ask(0, Bench.OPEN, 2, 18);
@@ -106,7 +106,7 @@ public final class TreesTest {
         bench.blocks(9);
         bench.make(0, 7, 0, 1, 2);
         bench.blocks(11);
-        Check.same("writes", bench.files.sync(2), 2);
+        Check.same("writes", bench.sync(2), 2);
         bench.nodes(6);
         bench.blocks(6);
     }
@@ -122,7 +122,7 @@ public final class TreesTest {
         bench.ask(0, Bench.REMOVE, 0);
         bench.blocks(8);
         bench.nodes(4);
-        Check.same("sync", bench.files.sync(-1), 3);
+        Check.same("sync", bench.sync(-1), 3);
         bench.blocks(4);
     }
 
@@ -138,7 +138,7 @@ public final class TreesTest {
         for (int[] change : changes) {
             bench.ask(0, Bench.WSTAT, 0, change);
             bench.blocks(9);
-            Check.same("sync", bench.files.sync(-1), 4);
+            Check.same("sync", bench.sync(-1), 4);
             bench.blocks(6);
         }
         bench.reach(0, 1, 1);
@@ -152,7 +152,7 @@ public final class TreesTest {
     private static void aSnapshotStays() {
         Check.part("a snapshot stays");
         Bench bench = smallTree();
-        Check.same("snapshot", bench.files.snapshot(), 1);
+        Check.same("snapshot", bench.snapshot(), 1);
         bench.reach(0, 0, 1, 2, 3);
         bench.ask(0, Bench.OPEN, 0, 2);
         bench.ask(3, Bench.WRITE, 0, 0, 1, 2, 3);
@@ -160,7 +160,7 @@ public final class TreesTest {
         bench.reach(0, 1, 1, 4);
         bench.ask(0, Bench.REMOVE, 1);
         bench.make(0, 8, 0, 1);
-        Check.same("sync", bench.files.sync(-1), 6);
+        Check.same("sync", bench.sync(-1), 6);
         bench.reachIn(1, 3, 2, 1, 2, 3);
         bench.ask(0, Bench.STAT, 2);
         bench.replied(3, 0, 0666, 0, 0, 0, 3);
@@ -182,57 +182,30 @@ public final class TreesTest {
     private static void savedAndSnapshotsShare() {
         Check.part("the saved tree and snapshots share");
         Bench bench = smallTree();
-        Check.same("snapshot", bench.files.snapshot(), 1);
-        Check.same("snapshot", bench.files.snapshot(), 2);
+        Check.same("snapshot", bench.snapshot(), 1);
+        Check.same("snapshot", bench.snapshot(), 2);
         bench.blocks(6);
         bench.reach(0, 0, 5);
         bench.ask(0, Bench.OPEN, 0, 1);
         bench.ask(1, Bench.WRITE, 0, 0, 1);
         bench.blocks(8);
-        Check.same("sync", bench.files.sync(-1), 3);
+        Check.same("sync", bench.sync(-1), 3);
         bench.blocks(8);
         bench.ask(1, Bench.WRITE, 0, 0, 1);
         bench.blocks(10);
-        Check.same("snapshot", bench.files.snapshot(), 3);
+        Check.same("snapshot", bench.snapshot(), 3);
         bench.blocks(8);
         bench.ask(1, Bench.WRITE, 0, 0, 2);
-        Check.same("snapshot", bench.files.snapshot(), 4);
+        Check.same("snapshot", bench.snapshot(), 4);
         bench.blocks(10);
         bench.ask(1, Bench.WRITE, 0, 0, 3);
         bench.blocks(12);
-        bench.files.crash();
+        bench.crash();
         bench.blocks(10);
     }
 
-    /** Three chains of five directories and a file, each file open on a fid: nineteen nodes. */
-    private static Bench chains() {
-        Bench bench = new Bench();
-        for (int chain = 0; chain < 3; chain++) {
-            bench.ask(0, Bench.ATTACH, chain, 0, 0);
-            for (int depth = 0; depth < 5; depth++) {
-                bench.ask(0, Bench.WALK, chain, 5);
-                bench.ask(0, Bench.CREATE, 5, 1 + chain, DIR | ALL, 0);
-                bench.ask(0, Bench.CLUNK, 5);
-                bench.ask(1, Bench.WALK, chain, chain, 1 + chain);
-            }
-            bench.ask(0, Bench.CREATE, chain, 9, 0666, 66);
-        }
-        bench.nodes(19);
-        bench.blocks(20);
-        return bench;
-    }
-
     private static Bench fullBlocks() {
-        Bench bench = chains();
-        for (int number = 1; number <= 3; number++) {
-            Check.same("snapshot", bench.files.snapshot(), number);
-            bench.blocks(19 * number);
-            if (number < 3) {
-                for (int chain = 0; chain < 3; chain++) {
-                    bench.ask(1, Bench.WRITE, chain, 0, number);
-                }
-            }
-        }
+        Bench bench = Scenes.roomForOneChain();
         bench.ask(1, Bench.WRITE, 0, 0, 9);
         bench.blocks(64);
         return bench;
@@ -266,11 +239,11 @@ public final class TreesTest {
         bench.ask(0, Bench.ATTACH, 3, 0, 0);
         bench.ask(0, Bench.CREATE, 3, 7, 0, 0);
         bench.blocks(64);
-        Check.same("writes", bench.files.sync(100), 8);
+        Check.same("writes", bench.sync(100), 8);
         bench.blocks(64);
-        Check.same("snapshot", bench.files.snapshot(), 4);
+        Check.same("snapshot", bench.snapshot(), 4);
         bench.ask(-11, Bench.REMOVE, 3);
-        bench.files.crash();
+        bench.crash();
         bench.blocks(64);
     }
 
@@ -280,7 +253,7 @@ public final class TreesTest {
         bench.ask(0, Bench.CLUNK, 1);
         bench.fid(0, 0, 1);
         bench.nodes(19);
-        Check.yes("hangUp", bench.files.hangUp(0));
+        Check.yes("hangUp", bench.hangUp(0));
         bench.fid(0, 0, 2);
         bench.nodes(18);
         bench.blocks(63);
