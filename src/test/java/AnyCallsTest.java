@@ -13,7 +13,8 @@ public final class AnyCallsTest {
         LOWEST, LOWEST + 1, -65536, -257, -256, -100, -64, -21, -20, -14, -2, -1, 0, 1, 2, 3, 4, 5, 6, 7, 8, 9, 10, 15,
         16, 17, 20, 21, 31, 32, 33, 63, 64, 65, 80, 82, 99, 100, 127, 128, 255, 256, 511, 512, 1023, 1024, 2047, 2048,
         4095, 4096, 65535, 65536, 1 << 30, HIGHEST - 16, HIGHEST - 2, HIGHEST - 1, HIGHEST};
-    private static final int[] EDGES = {LOWEST, -2, -1, 0, 1, 2, 5, 6, 8, 16, 99, 100, 2048, 4096, HIGHEST - 1, HIGHEST};
+    private static final int[] EDGES = {
+        LOWEST, -2, -1, 0, 1, 2, 5, 6, 8, 16, 99, 100, 2048, 4096, HIGHEST - 1, HIGHEST};
     private static final int SECONDS = 300;
 
     private final SnapshotFiles files;

@@ -1,3 +1,5 @@
+import java.util.Arrays;
+
 /** Every boundary that the document's "Terms" name, each with a test of its own. */
 public final class TermsTest {
     private static final int DIR = Bench.DIR;
@@ -29,6 +31,7 @@ public final class TermsTest {
         whatIsChangedGetsBlocks();
         ownBlocksAreKept();
         exactlySixtyFourBlocks();
+        justEnoughRoom();
         noRoomForAnyChange();
         whatGoesDoesNotCount();
         connectionsAndTags();
@@ -443,6 +446,53 @@ public final class TermsTest {
         bench.blocks(64);
         bench.reach(0, 3, 1);
         bench.ask(-11, Bench.CREATE, 3, 9, 0, 0);
+    }
+
+    /** In the chain 1 of the scene: its last directory and its file, and what needs how many blocks there. */
+    private static void justEnoughRoom() {
+        int[][] requests = {
+            {6, Bench.OPEN, 16}, {6, Bench.OPEN, 17}, {6, Bench.WRITE, 0, 1}, {6, Bench.CREATE, 8, 0, 0},
+            {5, Bench.REMOVE}, {6, Bench.WSTAT, 8, -1, -1, -1}, {6, Bench.WSTAT, -1, 0, -1, -1},
+            {6, Bench.WSTAT, -1, -1, 0, -1}, {6, Bench.WSTAT, -1, -1, -1, 0}};
+        for (int[] request : requests) {
+            Check.part("64 blocks are just enough for kind " + request[1]);
+            Bench bench = roomFor(request[0]);
+            bench.ask(request[1] == Bench.WRITE ? 1 : 0, request[1], fidFor(bench, request[1]), numbersOf(request));
+            bench.blocks(64);
+            Check.part("64 blocks are one too few for kind " + request[1]);
+            bench = roomFor(request[0] - 1);
+            int blocks = bench.blocks();
+            bench.ask(-11, request[1], fidFor(bench, request[1]), numbersOf(request));
+            bench.blocks(blocks);
+            bench.nodes(19);
+        }
+    }
+
+    /** The scene with room for at most six more blocks, as a directory of the chain 3 got new ones. */
+    private static Bench roomFor(int blocks) {
+        Bench bench = Scenes.roomForOneChain();
+        int[] titles = new int[6 - blocks];
+        Arrays.fill(titles, 3);
+        bench.reach(0, 4, titles);
+        bench.ask(0, Bench.WSTAT, 4, -1, 0777, -1, -1);
+        bench.blocks(64 - blocks);
+        return bench;
+    }
+
+    /** The chain's file is open on fid 0 already; other kinds need a fid that is not. */
+    private static int fidFor(Bench bench, int kind) {
+        if (kind == Bench.WRITE) {
+            return 0;
+        }
+        bench.reach(0, 5, 1, 1, 1, 1, 1);
+        if (kind != Bench.CREATE) {
+            bench.ask(1, Bench.WALK, 5, 5, 9);
+        }
+        return 5;
+    }
+
+    private static int[] numbersOf(int[] request) {
+        return Arrays.copyOfRange(request, 2, request.length);
     }
 
     private static void noRoomForAnyChange() {
