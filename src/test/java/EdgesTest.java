@@ -932,6 +932,7 @@ public final class EdgesTest {
         Check.part("WSTAT: -5 if WRITE is missing at the directory above, for a title");
         bench.ask(-5, Bench.WSTAT, 1, 9, -1, -1, -1);
         bench.ask(0, Bench.WSTAT, 2, 9, -1, -1, -1);
+        bench.ask(-5, Bench.WSTAT, 1, 9, -1, -1, -1);
         Check.part("WSTAT: -5 if the user is not the owner, for a mode or a group");
         bench.ask(-5, Bench.WSTAT, 2, -1, 0644, -1, -1);
         bench.ask(-5, Bench.WSTAT, 2, -1, -1, -1, 0);

@@ -320,6 +320,7 @@ public final class RefusalsTest {
                 Check.yes("send", bench.send(connection, tag, Bench.STAT, 0));
             }
         }
+        Check.yes("say", bench.say(4));
         Check.yes("hangUp", bench.hangUp(1));
         Check.same("waiting(0)", bench.waiting(0), 8);
         Check.same("waiting(1)", bench.waiting(1), 0);
@@ -331,6 +332,9 @@ public final class RefusalsTest {
             Check.same("serve", bench.serve(1, tag), -20);
             Check.same("serve", bench.serve(0, tag), 0);
         }
+        Check.part("promise 7: what is said stays");
+        Check.yes("send", bench.send(0, 0, Bench.WALK, 4));
+        Check.same("WALK 4", bench.serve(0, 0), 0);
     }
 
     /** There is room for one chain of new blocks alone, so the first of the fids removes its node. */

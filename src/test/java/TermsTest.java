@@ -15,7 +15,7 @@ public final class TermsTest {
         paths();
         pathsAfterCrashes();
         titles();
-        rightsOfOthersCountForAll();
+        rights();
         fileLengths();
         bytes();
         eightNodesInADirectory();
@@ -85,6 +85,15 @@ public final class TermsTest {
         bench.ask(0, Bench.REMOVE, 1);
         bench.ask(0, Bench.CREATE, 2, 3, 0, 0);
         bench.replied(3, 0);
+        Check.part("a CREATE without room takes no path");
+        for (int title = 10; title < 16; title++) {
+            bench.make(0, title, 0);
+        }
+        bench.reach(0, 3);
+        bench.ask(-11, Bench.CREATE, 3, 20, 0, 0);
+        bench.ask(0, Bench.REMOVE, 2);
+        bench.ask(0, Bench.CREATE, 3, 20, 0, 0);
+        bench.replied(10, 0);
     }
 
     private static void pathsAfterCrashes() {
@@ -118,22 +127,41 @@ public final class TermsTest {
         bench.stat(0, 0, 2, DIR | ALL, 0, 0, 0, 0);
     }
 
-    private static void rightsOfOthersCountForAll() {
+    private static void rights() {
         Check.part("a user has the rights of others, and those of the owner, and those of the group");
-        int[][] cases = {
-            {0, 0}, {0004, 1}, {0040, 1}, {0400, 1}, {0444, 1}, {0333, 0}};
-        for (int[] one : cases) {
-            Bench bench = new Bench();
-            bench.make(0, 1, one[0]);
-            bench.reach(0, 0, 1);
-            bench.ask(one[1] == 1 ? 0 : -5, Bench.OPEN, 0, 0);
+        int owner = 1;
+        int member = 0;
+        int other = 2;
+        mayRead(owner, 0004, 0400, 0444, 0404);
+        mayRead(member, 0004, 0040, 0444, 0044);
+        mayRead(other, 0004, 0444);
+        mayNotRead(owner, 0, 0040, 0333, 0373);
+        mayNotRead(member, 0, 0400, 0333, 0733);
+        mayNotRead(other, 0, 0400, 0040, 0440, 0773);
+        Check.part("who is owner and a member has the rights of both");
+        Bench bench = new Bench();
+        bench.make(0, 1, 0420);
+        bench.reach(0, 0, 1);
+        bench.ask(0, Bench.OPEN, 0, 2);
+    }
+
+    /** A file of user 1 and group 0, of which user 0 alone is a member. */
+    private static void tryToRead(int user, int answer, int rights) {
+        Bench bench = new Bench();
+        bench.make(1, 1, rights);
+        bench.reach(user, 0, 1);
+        bench.ask(answer, Bench.OPEN, 0, 0);
+    }
+
+    private static void mayRead(int user, int... modes) {
+        for (int mode : modes) {
+            tryToRead(user, 0, mode);
         }
-        int[][] forOthers = {{0440, 0}, {0004, 1}};
-        for (int[] one : forOthers) {
-            Bench bench = new Bench();
-            bench.make(0, 1, one[0]);
-            bench.reach(1, 0, 1);
-            bench.ask(one[1] == 1 ? 0 : -5, Bench.OPEN, 0, 0);
+    }
+
+    private static void mayNotRead(int user, int... modes) {
+        for (int mode : modes) {
+            tryToRead(user, -5, mode);
         }
     }
 
