@@ -31,6 +31,7 @@ public final class OrderTest {
         clunkAndStat();
         wstat();
         wstatWithoutRoom();
+        goneWithoutRoom();
         Check.end();
     }
 
@@ -561,5 +562,26 @@ public final class OrderTest {
         bench.ask(-5, Bench.WSTAT, 1, 7, -1, -1, 1);
         Check.part("WSTAT: -6 before -11");
         bench.ask(-6, Bench.WSTAT, 1, 2, -1, -1, -1);
+    }
+
+    /** Behind the sync no change of any node has room. */
+    private static void goneWithoutRoom() {
+        Bench bench = Scenes.roomForOneChain();
+        bench.reach(0, 4, 1, 1, 1, 1, 1, 9);
+        bench.reach(0, 5, 2);
+        bench.ask(0, Bench.REMOVE, 0);
+        bench.reach(0, 3);
+        bench.ask(0, Bench.CREATE, 3, 9, 0, 0);
+        Check.same("sync(-1)", bench.sync(-1), 8);
+        bench.blocks(64);
+        bench.ask(-11, Bench.WSTAT, 5, -1, 0, -1, -1);
+        bench.ask(-11, Bench.WSTAT, 3, -1, 0, -1, -1);
+        Check.part("OPEN: -13 before -11");
+        bench.ask(-13, Bench.OPEN, 4, 16);
+        Check.part("WSTAT: -13 before -11");
+        bench.ask(-13, Bench.WSTAT, 4, -1, 0, -1, -1);
+        Check.part("REMOVE: -13 before -11");
+        bench.ask(-13, Bench.REMOVE, 4);
+        bench.ask(-11, Bench.REMOVE, 3);
     }
 }
